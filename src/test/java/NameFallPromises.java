@@ -259,6 +259,10 @@ public final class NameFallPromises {
         faulty(5, m + "word w means a at ^a;");
         faulty(3, m + "word w means a at v ^v;");
         faulty(2, m + "word w means a at ^;");
+        String four = lines("place ? custom all alike 1 near 1 years 10 back own;", 0, 4) + "meaning m;";
+        faulty(3, four + "word w means m at a b ^a;");
+        faulty(3, four + "word w means m at a b c d ^b;");
+        faulty(5, four + "word w means m at a b c d ^e;");
         faulty(2, m + "word w means a at v ^at");
         faulty(5, m + "word w means a at v ^w;");
         faulty(3, m + "word w means a at v; word ^w means b at v;");
@@ -288,6 +292,22 @@ public final class NameFallPromises {
         faulty(3, p + "talk p q; talk q ^p;");
         faulty(2, p + "talk p q ^r;");
         of(p + "turn a b b; turn a b b; talk p q; talk q r; talk r p;", 12);
+        cutShort();
+    }
+
+    /** What was on the TAPE behind its end is no part of the text. */
+    private static void cutShort() {
+        String[] texts = {"meaning a|bcdefghijk", "meaning | abcdefghij", "place v custom all alike 1|2 near 1",
+            "place v custom all alike 1|x near 1", "meaning a|;"};
+        for (String text : texts) {
+            NameFall x = new NameFall();
+            int cut = text.indexOf('|');
+            feed(x, text.replace("|", ""));
+            due("end", x.end(cut), cut);
+            due("land of " + text, x.land(), -1);
+            due("fault(0) of " + text, x.fault(0), 2);
+            due("fault(1) of " + text, x.fault(1), cut);
+        }
     }
 
     private static void tooMany() {
