@@ -348,6 +348,9 @@ public final class NameFall {
             return NONE;
         }
         int everywhere = current.places.inAllRows(meaning);
+        if (everywhere == 0) {
+            return NONE;
+        }
         return what == 0 ? Integer.bitCount(everywhere) : lowest(everywhere);
     }
 

@@ -1250,7 +1250,7 @@ public final class NameFallModel {
                     first = w;
                 }
             }
-            return what == 0 ? n : first;
+            return n == 0 ? -1 : what == 0 ? n : first;
         }
 
         int about(int what) {

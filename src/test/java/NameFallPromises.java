@@ -867,18 +867,26 @@ public final class NameFallPromises {
     private static void oldAndAbout() {
         promise = "promise 28";
         NameFall x = valleys();
-        due("fire", x.old(0, 0), 0);
-        due("fire", x.old(0, 1), -1);
+        due("fire: none in all", x.old(0, 0), -1);
+        due("fire: none in all", x.old(0, 1), -1);
         due("stone", x.old(2, 0), 2);
         due("stone", x.old(2, 1), 4);
-        due("rain: none in all", x.old(1, 0), 0);
+        due("rain: none in all", x.old(1, 0), -1);
         due("no meaning", x.old(4, 0), -1);
         due("no meaning", x.old(-1, 1), -1);
         due("no what", x.old(2, 2), -1);
         due("no what", x.old(2, -1), -1);
         NameFall none = of("meaning m;", 1);
-        due("no places", none.old(0, 0), 0);
+        due("no places", none.old(0, 0), -1);
         due("no places", none.old(0, 1), -1);
+        NameFall bare = of("place v custom all alike 0 near 0 years 1 back never; place w custom kin alike 0 near 0 years 1 back any;"
+            + "meaning bare; meaning half; meaning full; word a means half at v; word b means half at w; word c means full at w v;", 8);
+        for (int what = 0; what <= 1; what++) {
+            due("no word at all, what " + what, bare.old(0, what), -1);
+            due("a word of each place, none of both, what " + what, bare.old(1, what), -1);
+        }
+        due("one of both", bare.old(2, 0), 1);
+        due("one of both", bare.old(2, 1), 2);
 
         promise = "promise 29";
         int[] counts = {3, 4, 6, 3, 8, 6, 0, 0, 0};
